@@ -772,12 +772,14 @@ public final class NudgeLocks {
         private final int[] starts;
         private final int[] repeats;
         private int planned;
+        private int depth;
 
         Schedule() {
             plan = new byte[MOST_PERFORMED];
             starts = new int[TEXT_ROOM];
             repeats = new int[TEXT_ROOM];
             planned = 0;
+            depth = 0;
         }
 
         /** The index of the text's fault, or NONE. */
@@ -821,39 +823,52 @@ public final class NudgeLocks {
         /** Spreads out a text without a fault; returns how many steps it has, or FULL. */
         int expand(char[] text, int length) {
             planned = 0;
-            int open = 0;
+            depth = 0;
             int times = 1;
             for (int i = 0; i < length && i < text.length; i++) {
                 char c = text[i];
+                boolean hasRoom = true;
                 if (isDigit(c)) {
                     times = c - '0';
-                    continue;
-                }
-                int start = planned;
-                if (c == '(' && open < TEXT_ROOM) {
-                    starts[open] = planned;
-                    repeats[open] = times;
-                    open++;
+                } else if (c == '(') {
+                    openBracket(times);
                     times = 1;
-                    continue;
-                }
-                if (c == ')' && open > 0) {
-                    open--;
-                    start = starts[open];
-                    times = repeats[open];
+                } else if (c == ')') {
+                    hasRoom = closeBracket();
                 } else {
-                    if (planned >= MOST_PERFORMED) {
-                        return FULL;
-                    }
-                    plan[planned] = (byte) (c - 'a');
-                    planned++;
+                    hasRoom = append(c) && repeat(planned - 1, times);
+                    times = 1;
                 }
-                if (!repeat(start, times)) {
+                if (!hasRoom) {
                     return FULL;
                 }
-                times = 1;
             }
             return planned;
+        }
+
+        private void openBracket(int times) {
+            if (depth < TEXT_ROOM) {
+                starts[depth] = planned;
+                repeats[depth] = times;
+                depth++;
+            }
+        }
+
+        private boolean closeBracket() {
+            if (depth < 1) {
+                return false;
+            }
+            depth--;
+            return repeat(starts[depth], repeats[depth]);
+        }
+
+        private boolean append(char letter) {
+            if (planned >= MOST_PERFORMED || !isLetter(letter)) {
+                return false;
+            }
+            plan[planned] = (byte) (letter - 'a');
+            planned++;
+            return true;
         }
 
         /** Makes what is planned from the start on stand there so many times; false if there is no room. */

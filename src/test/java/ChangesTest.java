@@ -70,6 +70,16 @@ public final class ChangesTest {
         Check.due("own card as at first", x.visitor(0, 7), 0);
         Check.due("tail as at first", x.total(2), 6);
         Check.due("build(0) on 1", x.build(0), 1);
+        x.go(0);
+        x.go(0);
+        Check.due("a flag stays up with one who came alone", x.visitor(0, 9), 1);
+        x.go(0);
+        x.go(2);
+        x.finish();
+        Check.due("the next one stays with one who went", x.visitor(0, 5), 2);
+        Check.due("build(0) on 0", x.build(0), 0);
+        Check.due("the flag as at first", x.visitor(0, 9), 0);
+        Check.due("the next one as at first", x.visitor(0, 5), -5);
         Check.due("build(3) on 0", x.build(3), 0);
         Check.due("flag of the kind 3", x.total(11), 0);
         Check.due("build(0) on 3", x.build(0), 3);
@@ -161,6 +171,11 @@ public final class ChangesTest {
         Check.due("two states", x.total(13), 2);
         Check.due("undo", x.undo(), 1);
         Check.due("x is undone", x.total(12), 1103527590);
+        x.draw(16, 3);
+        Check.due("visits of this call alone", x.draw(16, 8), 2);
+        Check.due("visits of all", x.total(7), 3);
+        Check.due("draw(1, 4)", x.draw(1, 4), 1);
+        Check.due("it was 0", x.visitor(0, 1), 4);
     }
 
     private static void drawOfSets() {
@@ -176,6 +191,14 @@ public final class ChangesTest {
         Check.due("visits of 3", x.visitor(3, 3), 1);
         Check.due("looks of 1", x.visitor(1, 2), 4);
         Check.due("looks of all", x.total(6), 4);
+        NudgeLocks z = new NudgeLocks();
+        z.build(2);
+        // Modulo 6: 2 4 3 1 1 5 0 3 0 0.
+        z.draw(63, 10);
+        int[] steps = {3, 2, 1, 2, 1, 1};
+        for (int v = 0; v < 6; v++) {
+            Check.due("steps of " + v + " of all six", z.visitor(v, 1), steps[v]);
+        }
         NudgeLocks y = new NudgeLocks();
         y.shuffle(2147483647);
         Check.due("draw(63, 1) from the greatest x", y.draw(63, 1), 0);
@@ -231,11 +254,11 @@ public final class ChangesTest {
     private static void performFaults() {
         String[] texts = {
             "", "2", "a2", "22a", "(", "()", ")", "a)", "(a", "(a))", "(a)b)", "1a", "0", "g", "A", "a b", "2)", "(2)",
-            "a(b(c)", "aa!", "a*", "'", "`", "{", "(a):", "((((((", "ab(c2(d)e)", "9(9(9(3ag", "2(a(", "a\u0161", "\u0000",
+            "a(b(c)", "aa!", "a*", "'", "`", "{", "(a):", "((((((", "(a2)", "a()", "ab(c2(d)e)", "9(9(9(3ag", "2(a(", "a\u0161", "\u0000",
         };
         int[] faults = {
             0, 1, 2, 1, 1, 1, 0, 1, 2, 3, 4, 0, 0, 0, 0, 1, 1, 2,
-            6, 2, 1, 0, 0, 0, 3, 6, NO_FAULT, 8, 4, 1, 0,
+            6, 2, 1, 0, 0, 0, 3, 6, 3, 2, NO_FAULT, 8, 4, 1, 0,
         };
         for (int i = 0; i < texts.length; i++) {
             NudgeLocks x = new NudgeLocks();

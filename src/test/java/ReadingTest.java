@@ -10,6 +10,7 @@ public final class ReadingTest {
         tickets();
         grabbing();
         counts();
+        whoIsInside();
         Check.end();
     }
 
@@ -210,5 +211,27 @@ public final class ReadingTest {
                 Check.due("total(" + (what + 4) + "), kind " + kind, x.total(what + 4), sums[what]);
             }
         }
+    }
+
+    private static void whoIsInside() {
+        for (int kind = 0; kind < 4; kind++) {
+            for (int v = 0; v < 6; v++) {
+                NudgeLocks x = new NudgeLocks();
+                x.build(kind);
+                x.go((v + 1) % 6);
+                x.go((v + 1) % 6);
+                Check.due("nobody is inside, kind " + kind, x.total(1), -5);
+                x.go(v);
+                x.go((v + 4) % 6);
+                Check.due("who is inside, kind " + kind, x.total(1), v);
+                Check.due("at the stage 2, kind " + kind, x.total(4), 0);
+                Check.due("not away, kind " + kind, x.total(3), 2);
+            }
+        }
+        NudgeLocks x = new NudgeLocks();
+        x.go(0);
+        x.go(2);
+        Check.due("the next one of 0 is 2", x.visitor(0, 5), 2);
+        Check.due("nobody is at the stage 2", x.total(4), 0);
     }
 }

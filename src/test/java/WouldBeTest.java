@@ -140,6 +140,9 @@ public final class WouldBeTest {
         dueOrders(x, 3, 4, 5, 0, 2);
         // 2 has its ticket: it can get in only when 0 is out.
         dueOrders(x, 0, 2, 4, 0, 0);
+        x.go(4);
+        // Both wait and nobody lets them in: the state of now alone, and it is stuck.
+        dueOrders(x, 2, 4, 1, 0, 1);
     }
 
     private static void ordersOfGrabbing() {
