@@ -38,7 +38,7 @@ final class BoundsOfTouchesAndLots {
         Check.due("touches of one who did nothing", x.visitor(1, 4), 0);
     }
 
-    /** The visitor at the stage 0 of this kind has made a step. */
+    /** A new lock of this kind at which the visitor has made its first step. */
     private static NudgeLocks stepped(int kind, int v) {
         NudgeLocks x = Lead.lock(kind);
         x.step(v);

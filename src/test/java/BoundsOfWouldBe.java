@@ -225,7 +225,6 @@ final class BoundsOfWouldBe {
         x.step(3);
         // 0 inside, 3 waiting; 0 back and 3 waiting, inside, back.
         Check.due("that of now and three more", x.orders(0, 3, 0), 4);
-        // 1: 0 inside, 1 waiting, not known; by kind 0: 0 at 4 with 1 at 2; and so on.
         NudgeLocks y = Lead.at(0, 7, 0, 1);
         // 0 at 7 and 1 at 3; 0 back and 1 at 3, 4, 5, back.
         Check.due("from the stage 7", y.orders(0, 1, 0), 5);
