@@ -6,7 +6,7 @@ import java.util.Map;
 
 /**
  * The sentences of ../shared/DOC.md that the tests quote. A quote that does not stand in the document is a failure, and
- * so is a quoted sentence without a test, and a sentence of the terms or of a promise that nobody quotes.
+ * so is a quoted sentence without a test, and a sentence that nobody quotes.
  * Runs in the project's folder.
  */
 final class Doc {
@@ -23,10 +23,10 @@ final class Doc {
         Map<String, StringBuilder> texts = new LinkedHashMap<>();
         String section = "";
         for (String line : Files.readString(Path.of("../shared/DOC.md")).split("\n")) {
-            if (line.startsWith("## ") || line.matches("[A-Z]+( [A-Z]+)*")) {
-                section = line.replace("## ", "").replaceAll(":.*", "");
+            if (line.matches("##? .*") || line.matches("[A-Z]+( [A-Z]+)*")) {
+                section = line.replaceFirst("##? ", "").replaceAll(":.*", "");
                 texts.put(section, new StringBuilder());
-            } else if (!section.isEmpty()) {
+            } else if (!section.isEmpty() && !line.startsWith("```")) {
                 texts.get(section).append(line.replaceFirst("^- ", "")).append(' ');
             }
         }
@@ -73,25 +73,19 @@ final class Doc {
         return found;
     }
 
-    /** Looks whether every sentence of the terms and promises has been quoted. */
+    /** Looks whether every sentence has been quoted. */
     static void end() {
         close();
         Check.about("");
         SECTIONS.forEach((name, text) -> {
-            if (name.startsWith("Promise ") || name.matches("[A-Z ]+")) {
-                String left = notQuoted(name, text);
-                Check.holds(name + " has no sentence without a test: " + left, left.isEmpty());
-            }
+            String left = notQuoted(name, text);
+            Check.holds(name + " has no sentence without a test: " + left, left.isEmpty());
         });
         System.out.println(sentences + " sentences");
     }
 
     private static String notQuoted(String name, String text) {
-        boolean[] quoted = QUOTED.get(name).clone();
-        // A method's signature ahead of its sentence is no sentence; the face is looked at by RulesTest.
-        if (text.startsWith("`")) {
-            java.util.Arrays.fill(quoted, 0, text.indexOf(':'), true);
-        }
+        boolean[] quoted = QUOTED.get(name);
         StringBuilder left = new StringBuilder();
         for (int i = 0; i < quoted.length; i++) {
             left.append(quoted[i] ? ' ' : text.charAt(i));

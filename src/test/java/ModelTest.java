@@ -7,6 +7,10 @@ public final class ModelTest {
         "22a", "()", "a1b", "A", "4(5(5(5(4a))))", "2(5(5(5(5a))))9(9(9a))", "4(5(5(5(4b))))c", "(((((a)))))",
     };
 
+    private static final int[] FAR_OUT = {
+        Integer.MIN_VALUE, Integer.MIN_VALUE + 1, -(1 << 30), -64, 64, 1 << 16, 1 << 30, Integer.MAX_VALUE - 1, Integer.MAX_VALUE,
+    };
+
     private static long seed;
     private static int largestOrders = 0;
     private static int performed = 0;
@@ -21,8 +25,13 @@ public final class ModelTest {
         return (int) Long.remainderUnsigned(seed, below);
     }
 
+    /** Mostly the given argument, now and then one that is far out of every range. */
+    private static int mostly(int argument) {
+        return lot(60) == 0 ? FAR_OUT[lot(FAR_OUT.length)] : argument;
+    }
+
     private static int anyVisitor() {
-        return lot(40) == 0 ? lot(5) * 7 - 14 : lot(6);
+        return mostly(lot(40) == 0 ? lot(5) * 7 - 14 : lot(6));
     }
 
     public static void main(String[] args) {
@@ -54,18 +63,18 @@ public final class ModelTest {
         int v = anyVisitor();
         switch (lot(mood == 0 ? 8 : 24)) {
             case 0: {
-                int kind = lot(20) == 0 ? lot(9) - 3 : lot(4);
+                int kind = mostly(lot(20) == 0 ? lot(9) - 3 : lot(4));
                 Check.due(name + "build(" + kind + ")", x.build(kind), m.build(kind));
                 break;
             }
             case 1: {
-                int set = lot(10) == 0 ? lot(80) - 5 : 1 + lot(63);
-                int steps = lot(10) == 0 ? lot(220) - 5 : 1 + lot(30);
+                int set = mostly(lot(10) == 0 ? lot(80) - 5 : 1 + lot(63));
+                int steps = mostly(lot(10) == 0 ? lot(220) - 5 : 1 + lot(30));
                 Check.due(name + "draw(" + set + ", " + steps + ")", x.draw(set, steps), m.draw(set, steps));
                 break;
             }
             case 2: {
-                int number = lot(3) == 0 ? m.total(12) : (int) (seed >>> 33) - (lot(9) == 0 ? 1 << 30 : 0);
+                int number = mostly(lot(3) == 0 ? m.total(12) : (int) (seed >>> 33) - (lot(9) == 0 ? 1 << 30 : 0));
                 Check.due(name + "shuffle(" + number + ")", x.shuffle(number), m.shuffle(number));
                 break;
             }
@@ -126,7 +135,7 @@ public final class ModelTest {
     private static void read(String name, NudgeLocks x, Model m) {
         int v = anyVisitor();
         int w = anyVisitor();
-        int what = lot(18) - 1;
+        int what = mostly(lot(18) - 1);
         switch (lot(8)) {
             case 0: Check.due(name + "inLine(" + what + ")", x.inLine(what), m.inLine(what)); break;
             case 1: Check.due(name + "card(" + what + ")", x.card(what), m.card(what)); break;
@@ -135,7 +144,7 @@ public final class ModelTest {
             case 4: Check.due(name + "wouldTouch(" + v + ")", x.wouldTouch(v), m.wouldTouch(v)); break;
             case 5: Check.due(name + "stepsToFinish()", x.stepsToFinish(), m.stepsToFinish()); break;
             case 6: {
-                int about = lot(30) == 0 ? lot(7) - 2 : lot(3);
+                int about = mostly(lot(30) == 0 ? lot(7) - 2 : lot(3));
                 Check.due(name + "orders(" + v + ", " + w + ", " + about + ")",
                         x.orders(v, w, about), m.orders(v, w, about));
                 break;

@@ -5,13 +5,10 @@ import java.lang.reflect.Method;
 import java.lang.reflect.Modifier;
 import java.nio.file.Files;
 import java.nio.file.Path;
-import java.util.ArrayList;
 import java.util.List;
 import java.util.TreeSet;
-import java.util.regex.Matcher;
-import java.util.regex.Pattern;
 
-/** The public face, and those rules of LANGUAGE.md that can be seen from the class or its text. Runs in the project's folder. */
+/** The public face, and those rules of LANGUAGE.md that can be seen from the class's text. Runs in the project's folder. */
 public final class RulesTest {
     private static final String[] FACE = {
         "build int", "step int", "go int", "draw int int", "shuffle int", "perform", "finish", "type char", "clearText",
@@ -25,8 +22,9 @@ public final class RulesTest {
     public static void main(String[] args) throws IOException {
         constants();
         members();
-        insideClasses();
-        text(Files.readString(Path.of("src/main/java/NudgeLocks.java")));
+        Path file = Path.of("src/main/java/NudgeLocks.java");
+        signs(Files.readString(file));
+        RulesOfTheSource.look(file);
         Check.end();
     }
 
@@ -76,72 +74,10 @@ public final class RulesTest {
                 && Modifier.isPublic(constructors[0].getModifiers()) && constructors[0].getParameterCount() == 0);
     }
 
-    private static void insideClasses() {
-        Class<?>[] inside = NudgeLocks.class.getDeclaredClasses();
-        Check.holds("some twelve classes at the most", inside.length <= 12);
-        for (Class<?> c : inside) {
-            Check.holds("static, neither public nor protected: " + c, Modifier.isStatic(c.getModifiers())
-                    && !Modifier.isPublic(c.getModifiers()) && !Modifier.isProtected(c.getModifiers()));
-            for (Method m : c.getDeclaredMethods()) {
-                Check.holds("at most seven parameters: " + m, m.getParameterCount() <= 7);
-            }
-        }
-    }
-
-    private static void text(String whole) {
+    private static void signs(String whole) {
         String code = whole.replaceAll("(?s)/\\*.*?\\*/", "").replaceAll("//[^\n]*", "");
         for (int i = 0; i < code.length(); i++) {
-            Check.holds("a plain sign at " + i, code.charAt(i) > 0 && code.charAt(i) < 128);
-        }
-        String[] words = {
-            "throw", "throws", "try", "catch", "finally", "synchronized", "assert", "package", "native", "volatile",
-            "transient", "protected", "Exception", "Object", "Random", "Thread",
-        };
-        for (String word : words) {
-            Check.holds("no " + word, !Pattern.compile("\\b" + word + "\\b").matcher(code).find());
-        }
-        Check.holds("no lambda", !code.replaceAll("(case [^;{}]*|default )->", "").contains("->"));
-        Check.holds("no method reference", !code.contains("::"));
-        Check.holds("no static block", !Pattern.compile("static\\s*\\{").matcher(code).find());
-        Check.holds("no text joined by +", !Pattern.compile("\"\\s*\\+|\\+\\s*\"").matcher(code).find());
-        imports(code);
-        librarySites(code);
-        methodLengths(code);
-    }
-
-    private static void imports(String code) {
-        Matcher m = Pattern.compile("\\bimport\\s+([^;]+);").matcher(code);
-        while (m.find()) {
-            Check.holds("may be imported: " + m.group(1), m.group(1).matches("java\\.util\\.(ArrayList|List|Arrays|Iterator)"));
-        }
-    }
-
-    /** The static functions of the library, by rule 4. */
-    private static void librarySites(String code) {
-        Matcher m = Pattern.compile("\\b(System|Integer|Long|Math|String|StringBuilder|Arrays|List|Character|Objects|Collections)"
-                + "\\.(\\w+)").matcher(code);
-        while (m.find()) {
-            String site = m.group();
-            boolean ofWholeNumbers = site.matches("(Integer|Long|Math)\\.\\w+") && !site.endsWith("Exact")
-                    && !site.matches(".*\\.(random|sqrt|cbrt|pow|exp|log|log10|sin|cos|tan|floor|ceil|rint|round|parse\\w+|decode|get\\w+)");
-            Check.holds("in the library: " + site, ofWholeNumbers || List.of("System.arraycopy", "Arrays.copyOf", "Arrays.copyOfRange",
-                    "Arrays.fill", "List.of").contains(site));
-        }
-    }
-
-    private static void methodLengths(String code) {
-        String[] lines = code.split("\n");
-        for (int i = 0; i < lines.length; i++) {
-            Matcher m = Pattern.compile("^( {4}| {8})[a-zA-Z].*\\) \\{$").matcher(lines[i]);
-            if (!m.find() || lines[i].trim().matches("(if|for|while|switch|do|else).*")) {
-                continue;
-            }
-            String close = m.group(1) + "}";
-            int end = i;
-            while (end < lines.length && !lines[end].equals(close)) {
-                end++;
-            }
-            Check.holds("some sixty lines at the most: " + lines[i].trim(), end - i < 60);
+            Check.holds("rule 4: a plain sign at " + i, code.charAt(i) > 0 && code.charAt(i) < 128);
         }
     }
 }
